@@ -32,14 +32,24 @@ final class Due {
         }
     }
 
-    /** The very class is compared: the machine's own exceptions are of classes below the due one. */
+    /**
+     * What a call throws: the very class, as the machine's own exceptions are of classes below the
+     * due ones, and whether it was thrown in the program's own code and not in the library's.
+     */
+    static String thrownBy(RuntimeException e) {
+        StackTraceElement[] trace = e.getStackTrace();
+        String place = trace.length == 0 ? "" : trace[0].getClassName();
+        boolean isOwn = place.equals("TideTable") || place.equals("PlainTideTable");
+        return e.getClass().getName() + (isOwn ? "" : " out of " + place);
+    }
+
     void throwsJust(String what, Class<? extends RuntimeException> want, LongSupplier call) {
         checks++;
         String thrown = NOTHING;
         try {
             call.getAsLong();
         } catch (RuntimeException e) {
-            thrown = e.getClass().getName();
+            thrown = thrownBy(e);
         }
         if (!thrown.equals(want.getName())) {
             report(what + " threw " + thrown + ", due is " + want.getName());

@@ -74,12 +74,12 @@ public final class RandomRunsTest {
         due.same(run + call, outcome(got), outcome(want));
     }
 
-    /** The answer, or the exception's very class, as one text. */
+    /** The answer, or what was thrown, as one text. */
     private static String outcome(LongSupplier call) {
         try {
             return Long.toString(call.getAsLong());
         } catch (RuntimeException e) {
-            return e.getClass().getName();
+            return Due.thrownBy(e);
         }
     }
 
