@@ -43,6 +43,15 @@ final class Due {
         return e.getClass().getName() + (isOwn ? "" : " out of " + place);
     }
 
+    /** The answer of a call, or what it threw, as one text. */
+    static String outcome(LongSupplier call) {
+        try {
+            return Long.toString(call.getAsLong());
+        } catch (RuntimeException e) {
+            return thrownBy(e);
+        }
+    }
+
     void throwsJust(String what, Class<? extends RuntimeException> want, LongSupplier call) {
         checks++;
         String thrown = NOTHING;

@@ -112,13 +112,12 @@ public final class OtherPortsTest {
 
     /** Of these waters some are a minute apart, and the first two are so at other ranges too. */
     private void promise14UnevenWaters() {
-        TideTable x = new TideTable();
-        x.addWave(2000, 745, 0);
-        x.addWave(500, 720, 100);
-        x.addPort();
         for (int range = 500; range >= 0; range -= 100) {
-            x.setRange(1, range);
             for (int shift = -300; shift <= 300; shift++) {
+                TideTable x = new TideTable();
+                x.addWave(2000, 745, 0);
+                x.addWave(range, 720, 100);
+                x.addPort();
                 x.setPort(0, true, shift, 100);
                 due.same("isInOrder at shift " + shift, x.isInOrder(0), areInOrder(x, shift));
             }

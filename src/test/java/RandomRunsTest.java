@@ -16,6 +16,7 @@ public final class RandomRunsTest {
     private final TideTable program = new TideTable();
     private final PlainTideTable plain = new PlainTideTable();
     private final boolean isWild;
+    private int made = 0;
 
     private RandomRunsTest(int seed) {
         this.random = new Random(seed);
@@ -34,9 +35,9 @@ public final class RandomRunsTest {
     }
 
     private void go() {
-        int calls = isWild ? CALLS : 20 + random.nextInt(150);
+        int calls = isWild ? CALLS : 20 + random.nextInt(100);
         setUp();
-        for (int call = 0; call < calls - 60; call++) {
+        while (made < calls - 1) {
             oneCall();
         }
         compare("digest()", program::digest, plain::digest);
@@ -47,6 +48,9 @@ public final class RandomRunsTest {
 
     /** Most runs begin with a tide and some ports, or they would ask an empty table for long. */
     private void setUp() {
+        if (random.nextInt(5) == 0) {
+            addWavesAgainstEachOther();
+        }
         int waves = random.nextInt(4);
         for (int i = 0; i < waves; i++) {
             addWave();
@@ -71,16 +75,8 @@ public final class RandomRunsTest {
     }
 
     private void compare(String call, LongSupplier got, LongSupplier want) {
-        due.same(run + call, outcome(got), outcome(want));
-    }
-
-    /** The answer, or what was thrown, as one text. */
-    private static String outcome(LongSupplier call) {
-        try {
-            return Long.toString(call.getAsLong());
-        } catch (RuntimeException e) {
-            return Due.thrownBy(e);
-        }
+        made++;
+        due.same(run + call, Due.outcome(got), Due.outcome(want));
     }
 
     private void addWave() {
@@ -90,6 +86,17 @@ public final class RandomRunsTest {
         compare("addWave(" + range + ", " + period + ", " + offset + ")",
                 () -> program.addWave(range, period, offset),
                 () -> plain.addWave(range, period, offset));
+    }
+
+    /** Such a tide has many waters, some of them a minute apart. */
+    private void addWavesAgainstEachOther() {
+        int range = 5 + random.nextInt(30);
+        int period = 60 + random.nextInt(500);
+        int other = period + random.nextInt(3);
+        compare("a wave", () -> program.addWave(range, period, 0),
+                () -> plain.addWave(range, period, 0));
+        compare("the wave against it", () -> program.addWave(range, other, other / 2),
+                () -> plain.addWave(range, other, other / 2));
     }
 
     private void oneCall() {
@@ -123,7 +130,7 @@ public final class RandomRunsTest {
     }
 
     private void changeTide() {
-        int wave = number(0, Math.max(0, program.count(0) - 1));
+        int wave = number(0, Math.max(0, plain.count(0) - 1));
         int range = random.nextBoolean() ? number(0, 5000) : number(0, 3);
         int level = number(-10000, 10000);
         switch (random.nextInt(isWild ? 3 : 8)) {
@@ -142,7 +149,7 @@ public final class RandomRunsTest {
     }
 
     private int port() {
-        return number(0, Math.max(0, program.count(2) - 1));
+        return number(0, Math.max(0, plain.count(2) - 1));
     }
 
     private void changePorts() {
@@ -170,7 +177,7 @@ public final class RandomRunsTest {
 
     private void askTide() {
         int time = number(0, 4319);
-        int wave = number(0, Math.max(0, program.count(0) - 1));
+        int wave = number(0, Math.max(0, plain.count(0) - 1));
         int what = number(0, 3);
         int datum = number(0, 4);
         switch (random.nextInt(4)) {
@@ -194,7 +201,7 @@ public final class RandomRunsTest {
     }
 
     private int water() {
-        return number(0, Math.max(0, program.count(1) - 1));
+        return number(0, Math.max(0, plain.count(1) - 1));
     }
 
     private void askWaters() {
@@ -261,6 +268,7 @@ public final class RandomRunsTest {
     private void askReadings() {
         switch (random.nextInt(3)) {
             case 0:
+                made++;
                 due.sameDouble(run + "residual()", program.residual(), plain.residual());
                 break;
             case 1:

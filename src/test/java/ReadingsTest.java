@@ -14,6 +14,7 @@ public final class ReadingsTest {
         test.promise21AdjustAtTheEdge();
         test.promise22NewObject();
         test.promise22Digest();
+        test.promise22DigestOfChangedTide();
         test.due.end("ReadingsTest");
     }
 
@@ -120,14 +121,16 @@ public final class ReadingsTest {
             d = d * 31 + x.count(asked);
         }
         d = d * 31 + level;
-        for (int water = 0; water < x.count(1); water++) {
+        int waters = x.count(1);
+        for (int water = 0; water < waters; water++) {
             for (int asked = 0; asked <= 2; asked++) {
                 d = d * 31 + x.water(water, asked);
             }
         }
-        for (int port = 0; port < x.count(2); port++) {
+        int ports = x.count(2);
+        for (int port = 0; port < ports; port++) {
             d = d * 31 + (x.isInOrder(port) ? 1 : 0);
-            for (int water = 0; water < x.count(1); water++) {
+            for (int water = 0; water < waters; water++) {
                 d = d * 31 + x.portWater(port, water, true);
                 d = d * 31 + x.portWater(port, water, false);
             }
@@ -139,9 +142,8 @@ public final class ReadingsTest {
         due.same(what + ", asked again", x.digest(), d);
     }
 
-    private void promise22Digest() {
+    private static TideTable withPorts() {
         TideTable x = evenTide();
-        sameDigest("digest of a tide", x, 0);
         x.setLevel(-700);
         x.addPort();
         x.addPort();
@@ -149,10 +151,22 @@ public final class ReadingsTest {
         x.setPort(0, false, -9, 77);
         x.setAddition(0, 12);
         x.read(7, 7);
-        sameDigest("digest with ports and a reading", x, -700);
-        x.addWave(300, 71, 5);
+        return x;
+    }
+
+    private void promise22Digest() {
+        sameDigest("digest of a tide", evenTide(), 0);
+        sameDigest("digest with ports and a reading", withPorts(), -700);
+    }
+
+    private void promise22DigestOfChangedTide() {
+        TideTable x = withPorts();
+        x.digest();
+        x.addWave(300, 410, 5);
         sameDigest("digest of two waves", x, -700);
-        int raised = x.adjust();
-        sameDigest("digest behind adjust", x, -700 + raised);
+        TideTable adjusted = withPorts();
+        adjusted.digest();
+        int raised = adjusted.adjust();
+        sameDigest("digest behind adjust", adjusted, -700 + raised);
     }
 }
