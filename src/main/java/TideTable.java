@@ -547,7 +547,7 @@ public final class TideTable {
         }
 
         private int greatestHeight() {
-            int greatest = heights[0];
+            int greatest = heightAt(0);
             for (int height : heights) {
                 greatest = Math.max(greatest, height);
             }
@@ -555,7 +555,7 @@ public final class TideTable {
         }
 
         private int leastHeight() {
-            int least = heights[0];
+            int least = heightAt(0);
             for (int height : heights) {
                 least = Math.min(least, height);
             }
