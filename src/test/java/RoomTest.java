@@ -6,7 +6,7 @@ import java.lang.management.ManagementFactory;
  */
 public final class RoomTest {
     private static final int CALLS = 500;
-    private static final long MOST_FOR_AN_OBJECT = 60_000;
+    private static final long MOST_FOR_AN_OBJECT = 70_000;
     private static final long MOST_FOR_A_RUN = 40_000;
 
     private static final com.sun.management.ThreadMXBean THREADS =
