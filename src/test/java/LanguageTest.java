@@ -50,6 +50,7 @@ public final class LanguageTest {
         test.library();
         test.exceptions();
         test.wordsThatAreOut();
+        test.indices();
         test.sizes();
         test.due.end("LanguageTest");
     }
@@ -123,6 +124,11 @@ public final class LanguageTest {
         due.same("lambdas and references", found("(->|::)").toString(), "[]");
         due.same("texts joined by +", found("(\"\\s*\\+|\\+\\s*\")").toString(), "[]");
         due.same("loops without a bound", found("(for\\s*\\([^;)]*;\\s*;)").toString(), "[]");
+    }
+
+    /** Rule 7: an index is looked at before it is used, so none is a number that stands there. */
+    private void indices() {
+        due.same("indices that are numbers", found("\\w(\\[\\d+\\])").toString(), "[]");
     }
 
     /** Rules 3 and 11: how many parameters, lines, classes and fields there are. */
